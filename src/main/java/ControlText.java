@@ -1072,7 +1072,13 @@ public final class ControlText {
         private boolean statement(int parent) {
             switch (kind) {
                 case Tokens.NAME:
-                    assignmentOrInvocation(parent);
+                    int namePlace = place;
+                    int name = takeName();
+                    if (kind == '(') {
+                        invocation(parent, namePlace, name);
+                    } else {
+                        assignment(parent, namePlace, name);
+                    }
                     break;
                 case Word.IF:
                     ifStatement(parent);
@@ -1100,13 +1106,7 @@ public final class ControlText {
             return true;
         }
 
-        private void assignmentOrInvocation(int parent) {
-            int namePlace = place;
-            int name = takeName();
-            if (kind == '(') {
-                parameters(tree.add(parent, Kind.INVOCATION, namePlace, name));
-                return;
-            }
+        private void assignment(int parent, int namePlace, int name) {
             int target = tree.size;
             if (kind == '[') {
                 int element = tree.add(parent, Kind.ELEMENT, namePlace, name);
@@ -1121,12 +1121,13 @@ public final class ControlText {
             outermostExpression(target);
         }
 
-        private void parameters(int invocation) {
+        private void invocation(int parent, int namePlace, int name) {
+            int invocation = tree.add(parent, Kind.INVOCATION, namePlace, name);
             takeOpening();
             boolean more = kind != ')';
             for (int turn = 0; more && turn < MOST_BYTES; turn++) {
-                int namePlace = place;
-                int parameter = tree.add(invocation, Kind.PARAMETER, namePlace, takeName());
+                int parameterPlace = place;
+                int parameter = tree.add(invocation, Kind.PARAMETER, parameterPlace, takeName());
                 take(Sign.ASSIGN);
                 outermostExpression(parameter);
                 more = takeComma();

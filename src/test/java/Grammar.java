@@ -114,14 +114,48 @@ final class Grammar {
 
     /** The index of the first token that can't come, one behind the last if it ends too early, or -1. */
     int firstRefused(List<String> tokens) {
+        List<Set<Item>> states = states(tokens);
+        int taken = states.size() - 1;
+        return taken == tokens.size() && canEnd(states.get(taken)) ? -1 : taken;
+    }
+
+    /** The tokens that can come behind these, and "end" if the text can end there. */
+    Set<String> following(List<String> tokens) {
+        List<Set<Item>> states = states(tokens);
+        if (states.size() <= tokens.size()) {
+            throw new IllegalArgumentException("these can't come themselves");
+        }
+        Set<String> all = new HashSet<>();
+        for (Item item : states.get(tokens.size())) {
+            if (item.next() != null && isToken(item.next())) {
+                all.add(item.next());
+            }
+        }
+        if (canEnd(states.get(tokens.size()))) {
+            all.add("end");
+        }
+        return all;
+    }
+
+    private static boolean canEnd(Set<Item> state) {
+        for (Item item : state) {
+            if (item.rule.equals("text") && item.origin == 0 && item.next() == null) {
+                return true;
+            }
+        }
+        return false;
+    }
+
+    /** Before each token that can come, and behind the last of them. */
+    private List<Set<Item>> states(List<String> tokens) {
         List<Set<Item>> states = new ArrayList<>();
         Set<Item> first = new LinkedHashSet<>();
         for (List<String> way : ways.get("text")) {
             first.add(new Item("text", way, 0, 0));
         }
         states.add(first);
+        complete(states, 0);
         for (int i = 0; i < tokens.size(); i++) {
-            complete(states, i);
             Set<Item> following = new LinkedHashSet<>();
             for (Item item : states.get(i)) {
                 if (tokens.get(i).equals(item.next())) {
@@ -129,17 +163,12 @@ final class Grammar {
                 }
             }
             if (following.isEmpty()) {
-                return i;
+                return states;
             }
             states.add(following);
+            complete(states, i + 1);
         }
-        complete(states, tokens.size());
-        for (Item item : states.get(tokens.size())) {
-            if (item.rule.equals("text") && item.origin == 0 && item.next() == null) {
-                return -1;
-            }
-        }
-        return tokens.size();
+        return states;
     }
 
     private void complete(List<Set<Item>> states, int i) {

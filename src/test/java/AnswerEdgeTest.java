@@ -65,10 +65,20 @@ public final class AnswerEdgeTest {
                 due.is("fault " + fault + " stays", calls.whatWasRead(), faulty.whatWasRead());
                 due.is("written with fault " + fault, calls.written(), before.written());
             }
-            due.is("no fault then", faulty.withText(SMALL).read().whatWasRead(), "0 -1 8 3");
             due.is("no text then", faulty.then(ControlText::clear).read().whatWasRead(), "0 -1 1 0");
-            int next = fault % 7 + 1;
-            due.is("another fault then", faulty.withText(FAULTY[next]).read().whatWasRead(),
+            eachFaultBehind(faulty, fault);
+        }
+        eachFaultBehind(read(SMALL), 0);
+    }
+
+    private static void eachFaultBehind(Calls before, int last) {
+        Calls good = before.withText(SMALL).read();
+        due.is("no fault behind fault " + last, good.whatWasRead(), "0 -1 8 3");
+        due.is("the tree behind fault " + last, good.tree() + good.names(), read(SMALL).tree() + "P\nX\nY\n");
+        for (int next = 1; next < FAULTY.length; next++) {
+            Calls faulty = before.withText(FAULTY[next]).read();
+            due.is("fault " + next + " behind fault " + last, faulty.answer(), next);
+            due.is("fault " + next + " behind fault " + last, faulty.whatWasRead(),
                 next + " " + FAULTY_AT[next] + " 0 0");
         }
     }

@@ -1,3 +1,6 @@
+import java.util.ArrayList;
+import java.util.List;
+
 /** Promises 6 to 12 at the brim: the longest texts, and those of most tokens, nodes, names and written bytes. */
 public final class BrimTest {
     private static final int MOST = 8192;
@@ -10,6 +13,7 @@ public final class BrimTest {
         mostWritten();
         longestTokens();
         largeOperandsBeforeSigns();
+        signsBehindManyNodes();
         due.end();
     }
 
@@ -46,26 +50,51 @@ public final class BrimTest {
         due.is("cells: written", probe.written(), text.trim());
     }
 
-    private static void mostNames() {
+    /** All names of one and two bytes, and of three as many as there is room for. */
+    private static List<String> shortestNames(int room) {
         String letters = "ABCDEFGHIJKLMNOPQRSTUVWXYZ_";
-        String behind = "0123456789" + letters;
-        StringBuilder text = new StringBuilder("PROGRAM P VAR ");
-        StringBuilder names = new StringBuilder("P\n");
-        String end = "X:P;END_VAR END_PROGRAM";
-        int count = 1;
-        for (int i = 0; i < 27 * 37 * 37 && text.length() + end.length() + 4 <= MOST; i++) {
-            String name = "" + letters.charAt(i % 27) + behind.charAt(i / 27 % 37) + behind.charAt(i / 27 / 37);
-            if (!name.equals("INT") && !name.equals("VAR") && !name.equals("XOR") && !name.equals("FOR")) {
-                text.append(i % 2 == 0 ? name : name.toLowerCase()).append(',');
-                names.append(name).append('\n');
-                count++;
+        String behind = letters + "0123456789";
+        List<String> all = new ArrayList<>();
+        for (String letter : letters.split("")) {
+            all.add(letter);
+        }
+        int left = room - 2 * all.size();
+        for (int i = 0; i < all.size() && left > 4; i++) {
+            for (int k = 0; k < behind.length() && left > 4; k++) {
+                String name = all.get(i) + behind.charAt(k);
+                all.add(name);
+                left -= Model.WORDS.contains(name) ? 0 : name.length() + 1;
             }
         }
-        Probe probe = new Probe(text + end);
+        all.removeAll(Model.WORDS);
+        return all;
+    }
+
+    private static void mostNames() {
+        String before = "PROGRAM A VAR ";
+        String end = ":A;END_VAR END_PROGRAM";
+        List<String> names = shortestNames(MOST - before.length() - end.length());
+        String text = before + String.join(",", names) + end;
+        due.is("names: nearly no room is left", text.length() > MOST - 5 && text.length() <= MOST ? 1 : 0, 1);
+        Probe probe = new Probe(text.toLowerCase());
         due.is("names: read()", probe.answer(), "read");
-        due.is("names", probe.names(), count + 1);
-        due.is("names in order", probe.namesInOrder(), names + "X\n");
-        due.is("names: written", probe.written(), (text + end).toUpperCase());
+        due.is("names", probe.names(), names.size());
+        due.is("names in order", probe.namesInOrder(), String.join("\n", names) + "\n");
+        due.is("names: written", probe.written(), text);
+        namesThatComeAgain(text, names.size());
+    }
+
+    /** No read() leaves less room for names to the next one, with a fault or without. */
+    private static void namesThatComeAgain(String text, int names) {
+        Calls calls = new Calls().withText(text);
+        for (int i = 0; i < 20; i++) {
+            calls = calls.then(x -> x.change(8, 'Q')).read().then(x -> x.change(8, '?')).read();
+            due.is("names that came again, with a fault", calls.answer(), 1);
+        }
+        Calls last = calls.then(x -> x.change(8, 'Q')).read();
+        due.is("names that came again", last.answer(), 0);
+        due.is("names that came again: how many", last.then(x -> x.count(3)).answer(), names);
+        due.is("names that came again: the last one", last.then(x -> x.nameByte(names - 1, 2)).answer() > 0 ? 1 : 0, 1);
     }
 
     private static void mostTokens() {
@@ -119,5 +148,22 @@ public final class BrimTest {
         due.is("a large call: the first sign's value", probe.node(5, 2), 9);
         due.is("a large call: the last node", probe.node(5 + 120 + operands, 3), 5);
         due.is("a large call: written", probe.written(), text.trim());
+    }
+
+    /** Nodes are moved at the end of a tree as large as may be. */
+    private static void signsBehindManyNodes() {
+        String end = "X[A*B+C]:=1*2+3=4;END_CASE;END_PROGRAM";
+        String text = filled("PROGRAM P CASE A OF ", "1:", end);
+        Probe probe = new Probe(text);
+        int choices = times(text, "1:");
+        due.is("signs behind many nodes: read()", probe.answer(), "read");
+        due.is("signs behind many nodes: nodes", probe.nodes(), 5 + 4 * choices + 14);
+        StringBuilder kinds = new StringBuilder();
+        for (int n = probe.nodes() - 14; n < probe.nodes(); n++) {
+            kinds.append(probe.node(n, 0)).append(' ').append(probe.node(n, 3) - probe.nodes()).append(' ');
+        }
+        due.is("signs behind many nodes: the last ones", kinds.toString(), "12 -15 32 -14 35 -13 35 -12 6 -11 6 -11 "
+            + "6 -12 35 -14 35 -7 35 -6 30 -5 30 -5 30 -6 30 -7 ");
+        due.is("signs behind many nodes: written", probe.written(), text.trim());
     }
 }

@@ -67,6 +67,7 @@ public final class DepthEdgeTest {
         signsStayUntilTheOutermostExpressionEnds();
         constantsAndArraysAreNeverOpen();
         cellsAreNeverOpen();
+        nothingStaysOpenBehindAFault();
         due.end();
     }
 
@@ -256,6 +257,44 @@ public final class DepthEdgeTest {
         reading.reads(program(around(STATEMENTS[0], 59, "CASE a OF " + choices + "END_CASE;")));
         reading.reads(program(around(STATEMENTS[0], 59, "CASE a OF " + choices + "x:=5;-6:x:=y;END_CASE;")));
         reading.refuses(7, program(around(STATEMENTS[0], 59, "CASE a OF " + choices + "x:=^-5;END_CASE;")));
+    }
+
+    /** Whatever was open when the last read() ended: sixty may be open in the next one, and not 61. */
+    private static void nothingStaysOpenBehindAFault() {
+        for (Opening statement : STATEMENTS) {
+            for (int times : new int[] {1, 30, 60, 61}) {
+                nextIsAsTheFirst("PROGRAM p " + statement.plain().repeat(times));
+                nextIsAsTheFirst("PROGRAM p " + statement.plain().repeat(times) + "@");
+            }
+        }
+        for (Opening operand : OPERANDS) {
+            for (int times : new int[] {1, 30, 60, 61}) {
+                nextIsAsTheFirst("PROGRAM p x:=" + operand.plain().repeat(times));
+                nextIsAsTheFirst("PROGRAM p x:=" + operand.plain().repeat(times) + "a 5");
+                nextIsAsTheFirst("PROGRAM p f(b:=" + operand.plain().repeat(times) + "a @");
+                nextIsAsTheFirst("PROGRAM p y[" + operand.plain().repeat(times) + "a");
+            }
+        }
+    }
+
+    private static void nextIsAsTheFirst(String text) {
+        Calls faulty = new Calls().withText(text).read();
+        due.is(text + "\nhas a fault", faulty.answer() > 0 ? 1 : 0, 1);
+        String in58 = "PROGRAM p " + "IF a THEN ".repeat(58);
+        due.is(text + "\nand then one without", faulty.withText(in58 + "f(b:=-c.d);x:=-(e);" + "END_IF;".repeat(58)
+            + "END_PROGRAM").read().whatWasRead(), "0 -1 186 8");
+        nextRefuses(faulty, 6, in58 + "f(b:=-c);^");
+        nextRefuses(faulty, 6, in58 + "f(b:=-c+d);^");
+        nextRefuses(faulty, 7, in58 + "f(b:=-^-c);");
+        nextRefuses(faulty, 7, in58 + "f(b:=c+d^+e);");
+        nextRefuses(faulty, 6, in58 + "x:=1 ^2");
+        nextRefuses(faulty, 1, in58 + "x:=(-^@");
+    }
+
+    /** The fault is where a ^ stands in the text. */
+    private static void nextRefuses(Calls before, int fault, String marked) {
+        Calls next = before.withText(marked.replace("^", "")).read();
+        due.is(marked + "\nbehind another text", next.whatWasRead(), fault + " " + marked.indexOf('^') + " 0 0");
     }
 
     private static void cellsAreNeverOpen() {

@@ -85,6 +85,9 @@ public final class RunTest {
     }
 
     private String text() {
+        if (random.nextInt(5) == 0) {
+            return deepText();
+        }
         List<String> tokens = grammar.some(random, 30);
         StringBuilder text = new StringBuilder();
         for (String token : tokens) {
@@ -94,6 +97,20 @@ public final class RunTest {
             text.setCharAt(random.nextInt(text.length()), (char) random.nextInt(256));
         }
         return text.toString();
+    }
+
+    /** With about sixty tokens open, and a fault behind them or none. */
+    private String deepText() {
+        String[] openings = {"(", "-", "NOT ", "a[", "f(", "a+", "b OR ", "c*"};
+        StringBuilder text = new StringBuilder("PROGRAM p x:=");
+        StringBuilder behind = new StringBuilder();
+        for (int i = 56 + random.nextInt(7); i > 0; i--) {
+            String opening = openings[random.nextInt(openings.length)];
+            text.append(opening);
+            behind.insert(0, opening.endsWith("(") ? ")" : opening.endsWith("[") ? "]" : "");
+        }
+        String[] ends = {"1", "1", "1", "", "@", "1 2", "%IX256", "12a", "(*"};
+        return text.append(ends[random.nextInt(ends.length)]).append(behind).append(";END_PROGRAM").toString();
     }
 
     private String spelt(String token) {

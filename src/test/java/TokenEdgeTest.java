@@ -289,6 +289,8 @@ public final class TokenEdgeTest {
         String[] others = {"", "D", "X", "_", "A", "U", "NS", "US", "#", " MS", "\nS", ".5S", "(**)H", "-"};
         for (String behind : others) {
             noNumber("T#5" + behind);
+            noNumber("T#0" + behind);
+            noNumber("T#2147483647" + behind);
         }
         noNumber("T#16#5S");
         for (char unit = 'A'; unit <= 'Z'; unit++) {
@@ -296,6 +298,7 @@ public final class TokenEdgeTest {
             if (known) {
                 number("T#2" + unit, unit == 'S' ? 2000 : unit == 'M' ? 120000 : 7200000);
             } else {
+                noNumber("T#0" + unit);
                 noNumber("T#2" + unit);
                 noNumber("T#2" + Character.toLowerCase(unit));
                 noNumber("T#2M" + unit);
